@@ -7,14 +7,16 @@ public final class LampHouse {
 
     private static final int NOTHING = -11, OUTSIDE = -12, OTHER_SORT = -13, BELOW_ZERO = -14;
     private static final int FAULT_BASE = -100;
-    private static final int COLOURS = 8, LAST_NUMBER = 999, WHOLE = 100;
+    private static final int COLOURS = 8, MOST_ROWS = 30, LAST_NUMBER = 999, DIGIT = 1000;
+    private static final long FOUR_DIGITS = 1000000000000L;
+    private static final int MOST_LIGHTS = 20, MOST_OF_LIGHT = 1000000000, WHOLE = 100;
     private static final int LAST_HOUR = 9999, MOST_PASSED = 1000;
     private static final int STEPS = 16, ALL_STEPS = 65535;
 
-    private final Rows rows = new Rows();
+    private final Eights rows = new Eights(MOST_ROWS);
     private final Ages ages = new Ages();
     private final Things things = new Things(rows, ages);
-    private final Lights lights = new Lights();
+    private final Eights lights = new Eights(MOST_LIGHTS);
     private final Eyes eyes = new Eyes(rows);
     private final Reader reader = new Reader();
     private final Rules rules = new Rules(eyes);
@@ -41,14 +43,14 @@ public final class LampHouse {
     }
 
     public int row(long first, long second) {
-        if (!Rows.isFourDigits(first) || !Rows.isFourDigits(second)) {
+        if (!isFourDigits(first) || !isFourDigits(second)) {
             return BAD;
         }
         if (rows.isFull()) {
             return FULL;
         }
-        Rows.putDigits(first, scratch, 0);
-        Rows.putDigits(second, scratch, COLOURS / 2);
+        putDigits(first, scratch, 0);
+        putDigits(second, scratch, COLOURS / 2);
         return rows.add(scratch);
     }
 
@@ -111,7 +113,7 @@ public final class LampHouse {
         if (lights.isFull()) {
             return FULL;
         }
-        Lights.join(lights.get(a), lights.get(b), scratch);
+        join(lights.get(a), lights.get(b), scratch);
         return lights.add(scratch);
     }
 
@@ -408,7 +410,7 @@ public final class LampHouse {
             return OUTSIDE;
         }
         System.arraycopy(sheets.get(sheet), from, scratch, 0, COLOURS);
-        if (!Rows.canHold(scratch)) {
+        if (!areNumbersOfRow(scratch)) {
             return STATE;
         }
         return rows.isFull() ? FULL : rows.add(scratch);
@@ -428,6 +430,37 @@ public final class LampHouse {
         things.turn(thing, lights.get(x), scratch);
         things.turn(thing, lights.get(y), scratchToo);
         return rules.trueness(eye, scratch, scratchToo, things.kindOf(thing), hour);
+    }
+
+    private static boolean isFourDigits(long number) {
+        return number >= 0 && number < FOUR_DIGITS;
+    }
+
+    private static void putDigits(long digits, int[] to, int from) {
+        long rest = digits;
+        for (int i = from; i < from + COLOURS / 2 && i < to.length; i++) {
+            to[i] = (int) (rest % DIGIT);
+            rest /= DIGIT;
+        }
+    }
+
+    private static boolean areNumbersOfRow(int[] eight) {
+        for (int number : eight) {
+            if (number < 0 || number > LAST_NUMBER) {
+                return false;
+            }
+        }
+        return true;
+    }
+
+    private static int limited(long number) {
+        return (int) Math.min(number, (long) MOST_OF_LIGHT);
+    }
+
+    private static void join(int[] a, int[] b, int[] to) {
+        for (int c = 0; c < COLOURS; c++) {
+            to[c] = limited((long) a[c] + b[c]);
+        }
     }
 
     private static boolean isColour(int colour) {
@@ -451,49 +484,33 @@ public final class LampHouse {
         return (bits & -1 << size) == 0;
     }
 
-    /** ROWS; one that is told never changes, so its array may be lent. */
-    private static final class Rows {
-        private static final int MOST = 30, BASE = 1000;
-        private static final long FOUR_DIGITS = 1000000000000L;
-
-        private final int[][] numbers = new int[MOST][COLOURS];
+    /** ROWS, or LIGHTS: 8 numbers each; what is told never changes, so its array may be lent. */
+    private static final class Eights {
+        private final int[][] numbers;
         private int size = 0;
 
-        static boolean isFourDigits(long number) {
-            return number >= 0 && number < FOUR_DIGITS;
-        }
-
-        static void putDigits(long digits, int[] to, int from) {
-            long rest = digits;
-            for (int i = from; i < from + COLOURS / 2 && i < to.length; i++) {
-                to[i] = (int) (rest % BASE);
-                rest /= BASE;
-            }
-        }
-
-        static boolean canHold(int[] eight) {
-            for (int number : eight) {
-                if (number < 0 || number > LAST_NUMBER) {
-                    return false;
-                }
-            }
-            return true;
+        Eights(int most) {
+            numbers = new int[Math.max(most, 0)][COLOURS];
         }
 
         int size() {
             return size;
         }
 
-        boolean has(int row) {
-            return row >= 0 && row < size;
+        boolean has(int i) {
+            return i >= 0 && i < size;
+        }
+
+        boolean hasAll(int bits) {
+            return areBelow(bits, size);
         }
 
         boolean isFull() {
-            return size >= MOST;
+            return size >= numbers.length;
         }
 
-        int[] get(int row) {
-            return numbers[row];
+        int[] get(int i) {
+            return numbers[i];
         }
 
         int add(int[] eight) {
@@ -560,7 +577,7 @@ public final class LampHouse {
         /** For each KIND the one that it is under. */
         private static final int[] ABOVE = {NONE, 0, 0, LAMP, GLASS, GLASS};
 
-        private final Rows rows;
+        private final Eights rows;
         private final Ages ages;
         private final int[] kinds = new int[MOST];
         private final int[] rowNumbers = new int[MOST];
@@ -569,7 +586,7 @@ public final class LampHouse {
         private final int[] steps = new int[MOST];
         private int size = 0;
 
-        Things(Rows rows, Ages ages) {
+        Things(Eights rows, Ages ages) {
             this.rows = rows;
             this.ages = ages;
         }
@@ -652,11 +669,11 @@ public final class LampHouse {
         void turn(int thing, int[] light, int[] to) {
             int[] row = rows.get(rowNumbers[thing]);
             for (int c = 0; c < COLOURS; c++) {
-                to[c] = Lights.limited(turned(thing, light[c], row[c]));
+                to[c] = limited(turned(thing, light[c], row[c]));
             }
             if (kinds[thing] == GLOWING) {
                 int glow = numbers[thing] % COLOURS;
-                to[glow] = Lights.limited((long) to[glow] + light[0] / 2);
+                to[glow] = limited((long) to[glow] + light[0] / 2);
             }
         }
 
@@ -706,58 +723,15 @@ public final class LampHouse {
         }
     }
 
-    /** LIGHTS; one that is told never changes, so its array may be lent. */
-    private static final class Lights {
-        private static final int MOST = 20, GREATEST = 1000000000;
-
-        private final int[][] numbers = new int[MOST][COLOURS];
-        private int size = 0;
-
-        static int limited(long number) {
-            return (int) Math.min(number, (long) GREATEST);
-        }
-
-        static void join(int[] a, int[] b, int[] to) {
-            for (int c = 0; c < COLOURS; c++) {
-                to[c] = limited((long) a[c] + b[c]);
-            }
-        }
-
-        int size() {
-            return size;
-        }
-
-        boolean has(int light) {
-            return light >= 0 && light < size;
-        }
-
-        boolean hasAll(int bits) {
-            return areBelow(bits, size);
-        }
-
-        boolean isFull() {
-            return size >= MOST;
-        }
-
-        int[] get(int light) {
-            return numbers[light];
-        }
-
-        int add(int[] eight) {
-            System.arraycopy(eight, 0, numbers[size], 0, COLOURS);
-            return size++;
-        }
-    }
-
     private static final class Eyes {
         private static final int MOST = 8, MOST_TAKERS = 3;
 
-        private final Rows rows;
+        private final Eights rows;
         private final int[][] takers = new int[MOST][MOST_TAKERS];
         private final int[] sizes = new int[MOST];
         private int size = 0;
 
-        Eyes(Rows rows) {
+        Eyes(Eights rows) {
             this.rows = rows;
         }
 
@@ -1218,7 +1192,7 @@ public final class LampHouse {
 
         private final Rules rules;
         private final Things things;
-        private final Lights lights;
+        private final Eights lights;
         private int eye = 0;
         private int hour = 0;
         private int[] wished = new int[COLOURS];
@@ -1233,7 +1207,7 @@ public final class LampHouse {
         private final int[] best = new int[MOST_LAYERS];
         private int bestSize = 0;
 
-        Nearest(Rules rules, Things things, Lights lights) {
+        Nearest(Rules rules, Things things, Eights lights) {
             this.rules = rules;
             this.things = things;
             this.lights = lights;
@@ -1332,14 +1306,14 @@ public final class LampHouse {
         private static final int MOST = 10;
 
         private final Eyes eyes;
-        private final Lights lights;
+        private final Eights lights;
         private final int[] firsts = new int[MOST];
         private final int[] seconds = new int[MOST];
         private final int[] unlike = new int[Eyes.MOST * (Eyes.MOST - 1) / 2];
         private int unlikeSize = 0;
         private int size = 0;
 
-        Plates(Eyes eyes, Lights lights) {
+        Plates(Eyes eyes, Eights lights) {
             this.eyes = eyes;
             this.lights = lights;
         }

@@ -76,6 +76,7 @@ public final class AgesTest {
         LampHouse x = house(1);
         x.flicker(0, 0x8001);
         CHECK.due("step 0", x.film(0, 0, 1, 15), 1);
+        CHECK.due("row 0", x.film(0, 15, 1, 0), 1);
         CHECK.due("step 15", x.film(0, 15, 1, 1), 1);
         CHECK.due("steps 15 and 0", x.film(0, 15, 2, 1), 2);
         CHECK.due("all steps", x.film(0, 7, 16, 3), 2);
@@ -100,8 +101,11 @@ public final class AgesTest {
         CHECK.due("rows 3 and 4", x.stripes(0, 2, 4, 4), 1);
         CHECK.due("rows 3, 4 and 0", x.stripes(0, 3, 4, 4), 4);
         CHECK.due("one row", x.stripes(0, 1, 4, 4), 0);
+        CHECK.due("rows of one step", x.stripes(0, 16, 1, 1), 1);
         CHECK.due("rows of all steps", x.stripes(0, 16, 5, 16), 0);
         CHECK.due("rows of one place", x.stripes(0, 16, 0, 3), 0);
+        x.flicker(0, 0);
+        CHECK.due("never on", x.stripes(0, 16, 1, 3), 0);
         CHECK.due("no thing", x.stripes(1, 1, 0, 1), -2);
         CHECK.due("thing -1", x.stripes(-1, 1, 0, 1), -2);
         CHECK.due("n 0", x.stripes(0, 0, 0, 1), -2);

@@ -57,6 +57,27 @@ public final class FiltersTest {
         }
     }
 
+    private static void halves() {
+        LampHouse x = new LampHouse();
+        CHECK.due("all", x.hidden(0, 0), 65536);
+        Check.row(x, 0, 0, 0, 0, 1, 1, 1, 1);
+        Check.row(x, 1, 1, 1, 1);
+        x.filter(0, 0);
+        CHECK.due("nothing in the upper colours", x.hidden(0, 0), 256);
+        CHECK.due("their least", x.hidden(1, 6), 0);
+        CHECK.due("their most", x.hidden(2, 6), 0);
+        CHECK.due("the lower ones' most", x.hidden(2, 1), 3);
+        x.filter(1, 12);
+        CHECK.due("all in the lower colours", x.hidden(0, 0), 1);
+        CHECK.due("their least", x.hidden(1, 2), 3);
+        LampHouse y = new LampHouse();
+        CHECK.due("all", y.hidden(0, 0), 65536);
+        Check.row(y, 0, 0, 0, 0, 1, 1, 1, 1);
+        y.filter(0, 12);
+        CHECK.due("all in the upper colours", y.hidden(0, 0), 256);
+        CHECK.due("their least", y.hidden(1, 4), 3);
+    }
+
     private static void noneFits() {
         LampHouse x = new LampHouse();
         Check.row(x, 2, 2, 2, 2, 2, 2, 2, 2);
@@ -88,6 +109,7 @@ public final class FiltersTest {
     public static void main(String[] args) {
         filter();
         hidden();
+        halves();
         noneFits();
         CHECK.end();
     }

@@ -107,6 +107,38 @@ public final class PlatesTest {
         eyeOf(y, 2);
         eyeOf(y, 0, 1);
         CHECK.due("two plates of the upper ones", y.chart(15), 4 | 8);
+        LampHouse z = house();
+        for (int c = 0; c < 4; c++) {
+            z.plate(c, 8);
+        }
+        // Plates 0, 1, 2 tell all apart as well, and are less as bits, but they are more.
+        eyeOf(z, 0);
+        eyeOf(z, 1, 2);
+        eyeOf(z, 3);
+        eyeOf(z, 2, 3);
+        CHECK.due("fewer plates win over less bits", z.chart(15), 4 | 8);
+    }
+
+    private static void eightEyes() {
+        LampHouse x = house();
+        x.plate(0, 8);
+        x.plate(1, 8);
+        x.plate(2, 8);
+        int[][] colours = {{7}, {0}, {1}, {0, 1}, {2}, {0, 2}, {1, 2}, {0, 1, 2}};
+        for (int[] some : colours) {
+            eyeOf(x, some);
+        }
+        CHECK.due("all eight", x.chart(255), 7);
+        LampHouse y = house();
+        y.plate(0, 8);
+        y.plate(1, 8);
+        y.plate(2, 8);
+        for (int eye = 0; eye < 7; eye++) {
+            eyeOf(y, colours[eye]);
+        }
+        eyeOf(y, colours[6]);
+        CHECK.due("the last two are alike", y.chart(255), -1);
+        CHECK.due("all but the last", y.chart(127), 7);
     }
 
     public static void main(String[] args) {
@@ -114,6 +146,7 @@ public final class PlatesTest {
         reads();
         chart();
         fewest();
+        eightEyes();
         CHECK.end();
     }
 }

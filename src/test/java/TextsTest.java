@@ -91,6 +91,12 @@ public final class TextsTest {
         faults(6, "like 1);true 1;");
         faults(6, "like ();true 1;");
         faults(10, "like 1 or or 1;true 1;");
+        faults(9, "like 1 or;true 1;");
+        faults(8, "like 1 <;true 1;");
+        faults(8, "like 1 +;true 1;");
+        faults(8, "like 1 *;true 1;");
+        faults(5, "like az;true 1;");
+        faults(5, "like za;true 1;");
         faults(5, "like and 1;true 1;");
         faults(10, "like 1 and;true 1;");
         faults(8, "like not;true 1;");
@@ -115,6 +121,29 @@ public final class TextsTest {
         stands("like -(1) * (((((2)))));true 1;");
         faults(10, "like -((((-1))));true 1;");
         faults(17, "like 1;true ((((((1))))));");
+    }
+
+    /** What a tape held before is no part of the next one. */
+    private static void tapesBefore() {
+        LampHouse x = new LampHouse();
+        String[] before = {"like 12345;", "like 1        ;", "like 1abc;", "like 1;true 1;"};
+        for (String text : before) {
+            Check.text(x, text);
+            CHECK.due("like 1, behind " + text, Check.text(x, "like 1"), -106);
+        }
+        Check.text(x, "like aaaa;");
+        CHECK.due("like a, behind like aaaa;", Check.text(x, "like a"), -106);
+        StringBuilder most = new StringBuilder("like 1;true 1;");
+        while (most.length() < 160) {
+            most.append(' ');
+        }
+        CHECK.due("a text of 160 bytes", Check.text(x, most.toString()), 2);
+        String digits = "like 1;true 1" + "+1".repeat(73);
+        CHECK.due("159 bytes and a ;", Check.text(x, digits + ";"), 3);
+        x.force(3);
+        CHECK.due("159 bytes and a digit", Check.text(x, digits + "1"), -100 - 160);
+        CHECK.due("159 bytes and a blank", Check.text(x, digits + " "), -100 - 160);
+        CHECK.due("159 bytes and a letter", Check.text(x, digits + "a"), -100 - 159);
     }
 
     private static final class House {
@@ -237,6 +266,7 @@ public final class TextsTest {
         goodTexts();
         faultyTexts();
         tooManyOpen();
+        tapesBefore();
         values();
         textAndForce();
         like();

@@ -157,6 +157,27 @@ public final class ThingsTest {
         CHECK.due("a light at its most", x.layers(0, 3, 19, 19, -1), -(1000000000L - start) / 1000);
     }
 
+    /** A second colour makes up for most of the first, so that one more or less shows. */
+    private static void mostOfALightToTheOne() {
+        LampHouse x = new LampHouse();
+        Check.row(x, 999, 908);
+        Check.row(x, 749, 999);
+        Check.row(x, 999);
+        x.light(0);
+        for (int i = 1; i < 20; i++) {
+            x.both(i - 1, i - 1);
+        }
+        x.thing(4, 2, 0);
+        x.thing(4, 2, 8);
+        x.eye(1, 1, -1);
+        Check.text(x, "like (a=0)*9999*9999+a;true a;");
+        x.force(1);
+        long more = 1000000000L - (999L << 19);
+        long less = (908L << 19) - (908L << 19) / 2 / 2;
+        CHECK.due("like", x.layers(0, 3, 19, 19, -1), (more * 749 - less * 999) / 1000);
+        CHECK.due("how many", x.layers(0, 3, 19, 19, -2), 2);
+    }
+
     public static void main(String[] args) {
         thing();
         stillNow();
@@ -164,6 +185,7 @@ public final class ThingsTest {
         aged();
         lights();
         mostOfALight();
+        mostOfALightToTheOne();
         CHECK.end();
     }
 }
