@@ -13,17 +13,9 @@ public final class AgesTest {
 
     private static void age() {
         LampHouse x = house(2);
-        CHECK.refused(x, "no thing", () -> x.age(2, 0, 0), -2);
-        CHECK.refused(x, "thing -1", () -> x.age(-1, 0, 0), -2);
-        CHECK.refused(x, "hour -1", () -> x.age(0, -1, 0), -2);
-        CHECK.refused(x, "hour 10000", () -> x.age(0, 10000, 0), -2);
-        CHECK.refused(x, "hundredths -1", () -> x.age(0, 0, -1), -2);
-        CHECK.refused(x, "hundredths 101", () -> x.age(0, 0, 101), -2);
         for (int i = 1; i <= 40; i++) {
             CHECK.due("age " + i, x.age(i % 2, 9999 - i % 3, i), i);
         }
-        CHECK.refused(x, "age 41", () -> x.age(0, 0, 0), -4);
-        CHECK.refused(x, "a bad age", () -> x.age(0, 0, 101), -2);
         CHECK.due("count(9)", x.count(9), 40);
         CHECK.due("the last of like hours", x.still(0, 9999), 36);
         CHECK.due("the last of like hours", x.still(1, 9999), 39);
@@ -54,10 +46,6 @@ public final class AgesTest {
         CHECK.due("told once more, ahead", x.still(0, 15), 31);
         CHECK.due("told once more, behind", x.still(0, 26), 51);
         CHECK.due("the other thing", x.still(1, 20), 100);
-        CHECK.due("no thing", x.still(2, 0), -2);
-        CHECK.due("thing -1", x.still(-1, 0), -2);
-        CHECK.due("hour -1", x.still(0, -1), -2);
-        CHECK.due("hour 10000", x.still(0, 10000), -2);
     }
 
     private static void flicker() {
@@ -65,10 +53,6 @@ public final class AgesTest {
         CHECK.due("all at first", x.flicker(0, 0), 65535);
         CHECK.due("none", x.flicker(0, 65535), 0);
         CHECK.due("all", x.flicker(0, 5), 65535);
-        CHECK.refused(x, "65536", () -> x.flicker(0, 65536), -2);
-        CHECK.refused(x, "-1", () -> x.flicker(0, -1), -2);
-        CHECK.refused(x, "no thing", () -> x.flicker(2, 0), -2);
-        CHECK.refused(x, "thing -1", () -> x.flicker(-1, 0), -2);
         CHECK.due("the other thing", x.thingTold(1, 4), 65535);
     }
 
@@ -84,14 +68,6 @@ public final class AgesTest {
         CHECK.due("15 times 15 is step 1", x.film(0, 15, 1, 15), 0);
         CHECK.due("13 times 5 is step 1", x.film(0, 5, 1, 13), 0);
         CHECK.due("13 times 5 and 15 more", x.film(0, 5, 16, 13), 2);
-        CHECK.due("no thing", x.film(1, 0, 1, 0), -2);
-        CHECK.due("thing -1", x.film(-1, 0, 1, 0), -2);
-        CHECK.due("s -1", x.film(0, -1, 1, 0), -2);
-        CHECK.due("s 16", x.film(0, 16, 1, 0), -2);
-        CHECK.due("w 0", x.film(0, 0, 0, 0), -2);
-        CHECK.due("w 17", x.film(0, 0, 17, 0), -2);
-        CHECK.due("i -1", x.film(0, 0, 1, -1), -2);
-        CHECK.due("i 16", x.film(0, 0, 1, 16), -2);
     }
 
     private static void stripes() {
@@ -106,14 +82,6 @@ public final class AgesTest {
         CHECK.due("rows of one place", x.stripes(0, 16, 0, 3), 0);
         x.flicker(0, 0);
         CHECK.due("never on", x.stripes(0, 16, 1, 3), 0);
-        CHECK.due("no thing", x.stripes(1, 1, 0, 1), -2);
-        CHECK.due("thing -1", x.stripes(-1, 1, 0, 1), -2);
-        CHECK.due("n 0", x.stripes(0, 0, 0, 1), -2);
-        CHECK.due("n 17", x.stripes(0, 17, 0, 1), -2);
-        CHECK.due("s 16", x.stripes(0, 1, 16, 1), -2);
-        CHECK.due("s -1", x.stripes(0, 1, -1, 1), -2);
-        CHECK.due("w 0", x.stripes(0, 1, 0, 0), -2);
-        CHECK.due("w 17", x.stripes(0, 1, 0, 17), -2);
     }
 
     private static void quietest() {
@@ -127,15 +95,6 @@ public final class AgesTest {
         CHECK.due("of the first and third", x.quietest(5, 4, 4, 4), 0);
         CHECK.due("rows 0 .. 2 are alike for the third", x.quietest(5, 3, 4, 4), 2);
         CHECK.due("the last alone", x.quietest(8, 4, 1, 1), 3);
-        CHECK.due("no bits", x.quietest(0, 4, 4, 4), -2);
-        CHECK.due("another bit", x.quietest(16, 4, 4, 4), -2);
-        CHECK.due("another bit and one", x.quietest(17, 4, 4, 4), -2);
-        CHECK.due("the sign's bit", x.quietest(Integer.MIN_VALUE, 4, 4, 4), -2);
-        CHECK.due("n 0", x.quietest(1, 0, 4, 4), -2);
-        CHECK.due("n 17", x.quietest(1, 17, 4, 4), -2);
-        CHECK.due("s 16", x.quietest(1, 4, 16, 4), -2);
-        CHECK.due("w 17", x.quietest(1, 4, 4, 17), -2);
-        CHECK.due("w 0", x.quietest(1, 4, 4, 0), -2);
     }
 
     public static void main(String[] args) {

@@ -52,43 +52,4 @@ final class Check {
         feed(x, text);
         return x.text();
     }
-
-    /** All that an object holds, asked by calls that change nothing. */
-    static String state(LampHouse x) {
-        StringBuilder all = new StringBuilder();
-        for (int what = 0; what <= 10; what++) {
-            all.append(x.count(what)).append(' ');
-        }
-        for (int row = 0; row < x.count(1); row++) {
-            for (int c = 0; c < 8; c++) {
-                all.append(x.rowTold(row, c)).append(' ');
-            }
-        }
-        for (int thing = 0; thing < x.count(2); thing++) {
-            for (int what = 0; what <= 5; what++) {
-                all.append(x.thingTold(thing, what)).append(' ');
-            }
-        }
-        for (int light = 0; light < x.count(3); light++) {
-            for (int c = 0; c < 8; c++) {
-                all.append(x.lightTold(light, c)).append(' ');
-            }
-        }
-        for (int eye = 0; eye < x.count(4); eye++) {
-            for (int light = 0; light < x.count(3); light++) {
-                for (int taker = 0; taker < 3; taker++) {
-                    all.append(x.seen(eye, taker, light)).append(' ');
-                }
-            }
-            all.append(x.reads(eye)).append(' ');
-        }
-        return all.append(x.hidden(0, 0)).toString();
-    }
-
-    /** A refusal: its answer, and that it changed nothing. */
-    void refused(LampHouse x, String call, java.util.function.LongSupplier asked, long want) {
-        String before = state(x);
-        due(call, asked.getAsLong(), want);
-        due(call + " leaves all as it was", before.equals(state(x)) ? 1 : 0, 1);
-    }
 }

@@ -12,6 +12,7 @@ import java.util.TreeMap;
  */
 final class Model {
     private static final class No extends RuntimeException {
+        private static final long serialVersionUID = 1L;
         final int code;
 
         No(int code) {
