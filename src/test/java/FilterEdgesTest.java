@@ -134,20 +134,15 @@ public final class FilterEdgesTest {
     /** "all of its numbers times those of the FILTER are the READING together": the least and the most there is. */
     private static void readings() {
         int[] nines = {9, 9, 9, 9, 9, 9, 9, 9};
-        fits(0, 3, 1, 0, 0, nines);
-        fits(1, 3, 0, -1, -1, nines);
-        fits(8, 3, 0, -1, -1, nines);
-        fits(9, 3, 8, 0, 1, nines);
-        fits(10, 3, 0, -1, -1, nines);
-        fits(206, 3, 0, -1, -1, nines);
-        fits(207, 3, 8, 2, 3, nines);
-        fits(215, 3, 0, -1, -1, nines);
-        fits(216, 3, 1, 3, 3, nines);
-        fits(217, 3, 0, -1, -1, nines);
-        fits(255, 3, 0, -1, -1, nines);
-        fits(256, 3, 0, -1, -1, nines);
-        fits(512, 3, 0, -1, -1, nines);
-        fits(999, 3, 0, -1, -1, nines);
+        for (int c = 0; c < 8; c++) {
+            fits(0, c, 1, 0, 0, nines);
+            fits(9, c, 8, 0, 1, nines);
+            fits(207, c, 8, 2, 3, nines);
+            fits(216, c, 1, 3, 3, nines);
+            for (int none : new int[] {1, 8, 10, 206, 208, 215, 217, 255, 256, 512, 999}) {
+                fits(none, c, 0, -1, -1, nines);
+            }
+        }
         fits(0, 7, 65536, 0, 3);
         fits(1, 7, 0, -1, -1);
         fits(999, 7, 0, -1, -1);

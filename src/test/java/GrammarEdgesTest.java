@@ -172,6 +172,18 @@ public final class GrammarEdgesTest {
             place("like 1" + joint + joint + "1;true 1;", 7);
             place("like " + joint + "1;true 1;", 5);
         }
+        for (String joint : List.of(" + ", " - ", " * ", " < ", " = ", " or ", " and ")) {
+            int behind = 6 + joint.length();
+            place("like 1" + joint + ";true 1;", behind);
+            place("like 1" + joint + ")" + ";true 1;", behind);
+            place("like (1" + joint + ");true 1;", behind + 1);
+            place("like 1;true 1" + joint + ";", behind + 7);
+            place("like 1" + joint, behind);
+        }
+        for (String opener : OPENERS) {
+            place("like " + opener + ";true 1;", 5 + opener.length());
+            place("like " + opener + ");true 1;", 5 + opener.length());
+        }
         place("like 1--1;true 1;", STANDS);
         place("like 1+-1;true 1;", STANDS);
         place("like 1-+1;true 1;", 7);

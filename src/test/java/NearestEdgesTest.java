@@ -158,6 +158,26 @@ public final class NearestEdgesTest {
         }
     }
 
+    /** "for an EYE": of the eye asked for, at the hour it is; nothing is left of what was asked before. */
+    private static void likeForAnEye() {
+        E.house(x -> forced(x, "10*kind+hour", "1"));
+        int[] takers = {3, 2};
+        for (int eye = 0; eye < 2; eye++) {
+            int asked = eye;
+            E.due("mixed for eye " + eye, x -> x.mixed(asked, 7, 4, -1), 10 * takers[eye]);
+            E.due("layers for eye " + eye, x -> x.layers(asked, 31, 0, 4, -1), 10 * takers[eye]);
+            E.then("mixed an hour later", x -> x.pass(1), x -> x.mixed(asked, 7, 4, -1), 10 * takers[eye] + 1);
+            E.then("layers an hour later", x -> x.pass(1), x -> x.layers(asked, 31, 0, 4, -1), 10 * takers[eye] + 1);
+        }
+        E.house(x -> house(x, 450, 450));
+        E.then("mixed behind what was liker", x -> x.mixed(0, 3, 4, -1), x -> x.mixed(0, 4, 4, -1), 405 + 405 + 810);
+        E.then("mixed of others", x -> x.mixed(0, 3, 4, 0), x -> x.mixed(0, 4, 4, 0), 10);
+        E.then("layers behind what was liker", x -> x.layers(0, 4, 0, 4, -1), x -> x.layers(0, 2, 0, 4, -1), 810);
+        E.then("layers of others", x -> x.layers(0, 4, 0, 4, -2), x -> x.layers(0, 2, 0, 4, -2), 0);
+        E.then("layers behind mixed", x -> x.mixed(0, 3, 4, -1), x -> x.layers(0, 4, 0, 4, 0), 2);
+        E.then("mixed behind layers", x -> x.layers(0, 4, 0, 0, -1), x -> x.mixed(0, 3, 4, 0), 5);
+    }
+
     /** "number by number the sum of parts times what is there, by 10", cut. */
     private static void mixtureIsCut() {
         for (int n = 1; n <= 21; n++) {
@@ -401,6 +421,7 @@ public final class NearestEdgesTest {
         partsAtTheirEnds();
         likeMixtures();
         likeOfMixture();
+        likeForAnEye();
         mixtureIsCut();
         trueOf();
         worst();

@@ -166,6 +166,20 @@ public final class PlateEdgesTest {
         charted(8, 127, 0, 1, 2, 4, 8, 16, 32, 64);
         charted(8, 254, 0, 128, 2, 4, 8, 16, 32, 64);
         charted(8, -1, 0, 0, 2, 4, 8, 16, 32, 64);
+        charted(8, -1, 0, 1, 2, 4, 8, 16, 32, 32);
+        charted(8, -1, 32, 1, 2, 4, 8, 16, 64, 32);
+    }
+
+    /** "no two READ just the same": of eight eyes each pair may be the one that plate 3 alone tells apart. */
+    private static void eachPair() {
+        for (int a = 0; a < 8; a++) {
+            for (int b = a + 1; b < 8; b++) {
+                int[] sets = {0, 1, 2, 3, 4, 5, 6, 7};
+                sets[b] = 8 | a;
+                charted(3, -1, sets);
+                charted(4, 15, sets);
+            }
+        }
     }
 
     /** The last plate alone tells them apart. */
@@ -190,6 +204,7 @@ public final class PlateEdgesTest {
         chart();
         noChart();
         fewestPlates();
+        eachPair();
         lastPlate();
         E.end();
     }

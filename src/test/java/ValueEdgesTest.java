@@ -177,6 +177,24 @@ public final class ValueEdgesTest {
         capped(999, 0, 0, 1022976000L, 1000000);
     }
 
+    /** TEXT 0 is "like sum ; true a + b + c": each of its takers sees another part. */
+    private static void textZero() {
+        for (int taker = 0; taker < 3; taker++) {
+            int which = taker;
+            E.house(x -> {
+                Check.row(x, 999);
+                Check.row(x);
+                x.light(0);
+                x.light(1);
+                x.eye(which == 0 ? 0 : 1, which == 1 ? 0 : 1, which == 2 ? 0 : 1);
+                x.thing(0, 0, 0);
+            });
+            E.due("text 0: like by taker " + taker, x -> x.like(0, 0, 1), 998);
+            E.due("text 0: true by taker " + taker, x -> x.trueOf(0, 0, 0, 1), 997);
+            E.due("text 0 is the rule at first", x -> x.count(7), 0);
+        }
+    }
+
     /** A glass of 999 lets all but a thousandth pass: what is unlike by more than a million is so behind it, too. */
     private static void trueOfMillions() {
         E.house(x -> {
@@ -238,6 +256,7 @@ public final class ValueEdgesTest {
         compares();
         thousands();
         millions();
+        textZero();
         trueOfMillions();
         kindAndHour();
         E.end();
