@@ -16,44 +16,44 @@ public final class FaceTest {
     private static final Check CHECK = new Check("face");
     private static final Path SOURCE = Path.of("src/main/java/LampHouse.java");
     private static final String FACE = """
-        int pass(int)
-        int row(long,long)
-        int rowTold(int,int)
-        int thing(int,int,int)
-        int thingTold(int,int)
-        int light(int)
-        int shine(int,int,int)
-        int both(int,int)
-        int lightTold(int,int)
-        int eye(int,int,int)
-        long seen(int,int,int)
-        int same(int,int,int)
-        int twins(int,int,int)
-        int feed(int,long)
+        int pass(int n)
+        int row(long first, long second)
+        int rowTold(int row, int colour)
+        int thing(int kind, int row, int number)
+        int thingTold(int thing, int what)
+        int light(int row)
+        int shine(int light, int thing, int aged)
+        int both(int a, int b)
+        int lightTold(int light, int colour)
+        int eye(int first, int second, int third)
+        long seen(int eye, int taker, int light)
+        int same(int eye, int a, int b)
+        int twins(int one, int other, int i)
+        int feed(int n, long bytes)
         int text()
-        int force(int)
-        long like(int,int,int)
-        int mixed(int,int,int,int)
-        long trueOf(int,int,int,int)
-        int worst(int,int,int,int)
-        int layers(int,int,int,int,int)
-        int plate(int,int)
-        int reads(int)
-        int chart(int)
-        int age(int,int,int)
-        int still(int,int)
-        int flicker(int,int)
-        int film(int,int,int,int)
-        int stripes(int,int,int,int)
-        int quietest(int,int,int,int)
-        int filter(int,int)
-        int hidden(int,int)
-        int count(int)
-        int sheet(int,int,int)
-        int cell(int,int,int)
-        int copy(int,int,int,int,int)
-        int rowOf(int,int,int)
-        int taken(int,int)
+        int force(int text)
+        long like(int eye, int a, int b)
+        int mixed(int eye, int lights, int wished, int i)
+        long trueOf(int eye, int thing, int x, int y)
+        int worst(int eye, int things, int x, int y)
+        int layers(int eye, int things, int light, int wished, int i)
+        int plate(int a, int b)
+        int reads(int eye)
+        int chart(int eyes)
+        int age(int thing, int hour, int hundredths)
+        int still(int thing, int hour)
+        int flicker(int thing, int steps)
+        int film(int thing, int s, int w, int i)
+        int stripes(int thing, int n, int s, int w)
+        int quietest(int things, int n, int s, int w)
+        int filter(int row, int reading)
+        int hidden(int what, int colour)
+        int count(int what)
+        int sheet(int sheet, int sort, int n)
+        int cell(int sheet, int i, int v)
+        int copy(int sheet, int i, int other, int j, int n)
+        int rowOf(int sheet, int sort, int from)
+        int taken(int thing, int k)
         """;
 
     private static void is(String what, boolean is) {
@@ -68,7 +68,8 @@ public final class FaceTest {
     private static void face() {
         Class<?> c = LampHouse.class;
         is("public and final", Modifier.isPublic(c.getModifiers()) && Modifier.isFinal(c.getModifiers()));
-        Set<String> due = new TreeSet<>(FACE.lines().toList());
+        Set<String> due = FACE.lines().map(line -> line.replaceAll(" \\w+(?=[,)])", "").replace(", ", ","))
+            .collect(Collectors.toCollection(TreeSet::new));
         Set<String> got = new TreeSet<>();
         for (Method m : c.getDeclaredMethods()) {
             if (!Modifier.isPrivate(m.getModifiers()) && !m.isSynthetic()) {
@@ -117,6 +118,7 @@ public final class FaceTest {
     private static void text() throws Exception {
         String code = Files.readString(SOURCE);
         is("signs 1 to 127", code.chars().allMatch(c -> c < 127));
+        FACE.lines().forEach(line -> is("as the document writes it: " + line, code.contains("    public " + line + " {\n")));
         String bare = code.replaceAll("(?s)/\\*.*?\\*/", "").replaceAll("//.*", "")
             .replaceAll("\"(\\\\.|[^\"\\\\])*\"", "\"\"").replaceAll("'(\\\\.|[^'\\\\])'", "' '");
         String[] banned = {"throw", "throws", "try", "catch", "synchronized", "assert", "package", "Object",
