@@ -1,4 +1,5 @@
 import java.io.IOException;
+import java.nio.charset.StandardCharsets;
 import java.nio.file.Files;
 import java.nio.file.Path;
 import java.nio.file.StandardCopyOption;
@@ -74,7 +75,7 @@ final class Project implements AutoCloseable {
             process.descendants().forEach(ProcessHandle::destroyForcibly);
             process.destroyForcibly();
         }
-        output = Files.readString(told);
+        output = Files.readString(told, StandardCharsets.ISO_8859_1);
         return isEnded ? process.exitValue() : -1;
     }
 
